@@ -417,11 +417,10 @@ public final class SmokyHeap {
         }
         ahead.copyFrom(now.heap);
         for (int minute = 0; minute <= n; minute++) {
+            ahead.pass(minute == 0 ? 0 : 1, now.laws);
             if (ahead.has(place) && ahead.lits[place]) {
                 return minute;
             }
-            // One pass behind the last MINUTE is not looked at.
-            ahead.pass(1, now.laws);
         }
         return failed(NONE);
     }
@@ -545,8 +544,8 @@ public final class SmokyHeap {
             return failed(NONE);
         }
         int came = 0;
-        for (int i = 0; sheets[sheet].stand(i, NUMBERS_AN_ARMFUL); i += NUMBERS_AN_ARMFUL) {
-            int[] numbers = sheets[sheet].numbers;
+        int[] numbers = sheets[sheet].numbers;
+        for (int i = 0; i < NUMBERS_MOST && sheets[sheet].stand(i, NUMBERS_AN_ARMFUL); i += NUMBERS_AN_ARMFUL) {
             if (now.heap.layOnTop(numbers[i], numbers[i + 1], numbers[i + 2], numbers[i + 3]) < 0) {
                 return came;
             }
