@@ -632,13 +632,13 @@ public final class SmokyHeap {
         return now.laws.work(BYLAW, heap.hourNow(), heap.settings[WIND], heap.howManyLit(), heap.howMany()) != 0;
     }
 
-    // What the smoke in smokeAhead would be BOTHERED if its first MINUTE began that HOUR.
+    // How much BOTHERED there is from the smoke in smokeAhead, if it begins with that HOUR. AHEAD goes
+    // no further than an HOUR is long, so that all its MINUTES are of that HOUR.
     private int botheredFrom(int hour, int n) {
         ahead.settings[CLOCK] = MINUTES_AN_HOUR * hour;
         ahead.forgetBothered();
         for (int k = 0; k < n; k++) {
             ahead.drift(smokeAhead[k], now.laws);
-            ahead.clockGoesOn();
         }
         return ahead.botheredInAll();
     }
@@ -920,7 +920,7 @@ public final class SmokyHeap {
                 int made = burn(laws);
                 drift(made, laws);
                 smoke = Math.min(smoke + made, SUM_MOST);
-                clockGoesOn();
+                settings[CLOCK] = (settings[CLOCK] + 1) % MINUTES_A_DAY;
                 minutes++;
             }
         }
@@ -1036,10 +1036,6 @@ public final class SmokyHeap {
                 return hour >= 18 || hour < 6 ? 90 : 40;
             }
             return Math.max(0, Math.min(laws.work(LYING, hour, settings[WIND], made, 0), 100));
-        }
-
-        void clockGoesOn() {
-            settings[CLOCK] = (settings[CLOCK] + 1) % MINUTES_A_DAY;
         }
 
         void forgetBothered() {

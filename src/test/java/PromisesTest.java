@@ -101,6 +101,14 @@ public final class PromisesTest {
         is(3, x.lay(0, 1, 5, 5), 1);
         is(3, x.armful(1, 3), 3);
         is(3, x.armful(1, 5), 0);
+        // The least STUFF falls and counts like any other.
+        SmokyHeap y = new SmokyHeap();
+        y.lay(0, 0, 2, 0);
+        y.lay(1, 0, 1, 9);
+        is(3, y.take(0), 2);
+        is(3, y.armful(0, 0), 1);
+        is(19, y.heap(0), 1);
+        is(19, y.heap(7), 9);
     }
 
     private static void armful() {
@@ -154,6 +162,17 @@ public final class PromisesTest {
         pile(x, 0, 3, 5);
         is(4, x.armful(27, 6), 3 * 3 + 99);
         is(4, x.armful(21, 6), 2 * 3);
+        // Right of 5 is beside the HEAP, whatever stands at 6.
+        SmokyHeap y = new SmokyHeap();
+        pile(y, 0, 5, 1);
+        pile(y, 0, 0, 5);
+        y.set(2, 2);
+        is(4, y.armful(5, 6), 3 * 3 + 5);
+        is(4, y.armful(6, 6), 2 * 3 + 5);
+        is(4, y.armful(24, 6), 3 * 3 + 5);
+        y.set(2, 3);
+        is(4, y.armful(24, 6), 3 * 3 + 5);
+        is(4, y.armful(18, 6), 2 * 3);
     }
 
     private static void as() {
@@ -390,6 +409,18 @@ public final class PromisesTest {
             {"0-8192*8192*32=8192*8192*32", "1"}, {"(0-8192*8192*32)/(0-1)", "8192*8192*32"},
             {"(8192*8192*32)%(0-1)", "0"}, {"8192*8192*32<0", "1"}, {"h*w-l", "74"}, {"n-!n", "3"}};
         for (String[] a : all) worth(a[0], a[1]);
+        SmokyHeap x = new SmokyHeap();
+        // What was read ahead of a TEXT is not in it.
+        String much = "(1+2)*".repeat(9) + "h-15";
+        for (int k = 0; k < 3; k++) {
+            is(12, law(x, 1, much), 1);
+            is(12, x.may(), 1);
+            is(12, law(x, 1, "h=14"), 1);
+            is(12, x.may(), 0);
+            is(12, law(x, 1, "1+1+)"), -14);
+            is(12, law(x, 1, "h-15"), 1);
+            is(12, x.may(), 0);
+        }
     }
 
     private static void untell() {
@@ -468,6 +499,38 @@ public final class PromisesTest {
         // 7: 65 less 6 and 1, and 1 from 8, 1 from 13.
         is(14, y.armful(7, 4), 60);
         is(14, y.heap(2), 9 + 13 + 8 + 1 + 8 + 60);
+        // 5 and 6 are not beside one another, nor is anything above the highest row.
+        SmokyHeap z = new SmokyHeap();
+        pile(z, 0, 5, 1);
+        pile(z, 0, 0, 5);
+        z.light(5);
+        z.minutes(1);
+        is(14, z.armful(6, 4), 0);
+        is(14, z.heap(2), z.armful(5, 4));
+        z.light(24);
+        z.minutes(1);
+        // 4 burn: 116 warm; 14 go below: 102; less 10 and 1.
+        is(14, z.armful(24, 4), 91);
+        is(14, z.armful(18, 4), 14);
+        heldWarmth();
+    }
+
+    private static void heldWarmth() {
+        // Each burns 998: 8084 at 0, 9094 at 1, 8968 at 6, and 7, to which 994 and 1121 came, would have 10199.
+        SmokyHeap x = new SmokyHeap();
+        for (int k = 0; k < 4; k++) x.lay(2, k % 2, 999, 0);
+        for (int k = 0; k < 4; k++) x.light(k < 2 ? k : k + 4);
+        law(x, 0, "998");
+        x.minutes(1);
+        // 9999 less 1249 to the left, less 1093 below: 7657; less 765 and 1.
+        is(14, x.armful(7, 4), 6891);
+        // WET does not go below 0.
+        is(14, x.heap(7), 0);
+        x.lay(0, 4, 50, 3);
+        x.light(4);
+        law(x, 0, "1");
+        x.minutes(1);
+        is(14, x.armful(4, 2), 0);
     }
 
     private static void ashes() {
@@ -550,6 +613,18 @@ public final class PromisesTest {
         y.set(3, 61);
         y.minutes(1);
         is(14, y.armful(1, 5), 1);
+        // WARM that is just CATCH does, one less does not: an eighth of 48 comes, and of 47.
+        for (int water = 52; water < 54; water++) {
+            SmokyHeap u = new SmokyHeap();
+            u.lay(0, 0, 9, 0);
+            u.light(0);
+            u.pour(0, water);
+            u.become(0, 6);
+            u.lay(3, 1, 9, 0);
+            u.minutes(1);
+            is(14, u.armful(1, 4), water == 52 ? 5 : 4);
+            is(14, u.armful(1, 5), water == 52 ? 1 : 0);
+        }
         // WARM below 5 ends it: a DAMP of which 0 burn loses a tenth and 1 each MINUTE.
         SmokyHeap z = new SmokyHeap();
         z.lay(4, 0, 500, 0);
@@ -595,6 +670,10 @@ public final class PromisesTest {
         is(14, x.count(1), 99999);
         is(14, x.count(3), (900 + 99999) % 1440);
         is(21, x.then(60, 0), 0);
+        SmokyHeap y = new SmokyHeap();
+        for (int k = 0; k < 499; k++) y.minutes(200);
+        is(15, y.gusts(200), STATE);
+        is(15, y.gusts(199), 99999);
     }
 
     private static void gusts() {
@@ -656,6 +735,7 @@ public final class PromisesTest {
         is(17, x.washing(8, 3, 5), 3);
         is(17, x.garden(8, 2), 0b111000);
         is(17, x.washing(8, 24, 24), BEYOND);
+        is(17, x.washing(8, 24, 3), BEYOND);
         is(17, x.washing(8, 0, 24), BEYOND);
         is(17, x.washing(8, -1, 3), BEYOND);
         is(17, x.washing(8, 3, -1), BEYOND);
@@ -665,6 +745,8 @@ public final class PromisesTest {
         is(17, x.washing(8, 5, 4), 0);
         is(17, x.garden(8, 2), 0);
         is(17, x.garden(7, 2), 0);
+        is(17, x.washing(0, 0, 0), 1);
+        is(17, x.garden(0, 2), 1);
     }
 
     /** A HEAP that makes 1000 of smoke in its first MINUTE. */
@@ -832,6 +914,15 @@ public final class PromisesTest {
         is(23, x.hour(0, 1), 23);
         x.washing(4, 7, 7);
         is(23, x.hour(0, 1), 6);
+        // The first GARDEN and the last count as well.
+        for (int g = 0; g < 9; g += 8) {
+            SmokyHeap v = smoky();
+            v.set(4, g);
+            v.washing(g, 0, 0);
+            is(23, v.hour(0, 9), 1);
+            v.washing(g, 0, 22);
+            is(23, v.hour(0, 60), 23);
+        }
         // It is LIT whatever is against it, and the others burn, too.
         SmokyHeap y = new SmokyHeap();
         y.lay(0, 0, 999, 690);
@@ -904,6 +995,31 @@ public final class PromisesTest {
         z.lay(3, 1, 500, 0);
         // STUFF 1 is ASH at once without water or with: the paper is not warm.
         is(25, z.out(1), 0);
+        // 950 does just: 790 burnt leave 5777 warm; less 950, and 8: WET 950 less 241. Of 900 less 244.
+        SmokyHeap v = new SmokyHeap();
+        v.lay(2, 0, 999, 0);
+        v.light(0);
+        law(v, 0, "790");
+        v.minutes(1);
+        is(25, v.armful(0, 4), 5777);
+        law(v, 0, "1");
+        is(25, v.out(1), 950);
+        // The paper has caught by the next MINUTE: no water comes on it, as it is not LIT now.
+        SmokyHeap u = new SmokyHeap();
+        u.lay(2, 0, 500, 0);
+        u.lay(3, 1, 50, 61);
+        u.light(0);
+        law(u, 0, "1");
+        u.minutes(1);
+        is(25, u.heap(1), 1);
+        u.set(3, 61);
+        is(25, u.out(1), NONE);
+        // One of STUFF 1 gets water, too: a LIVED one of 100 warm.
+        SmokyHeap t = new SmokyHeap();
+        t.lay(0, 0, 1, 0);
+        t.light(0);
+        t.become(0, 6);
+        is(25, t.out(1), 100);
     }
 
     private static void catches() {
@@ -933,6 +1049,16 @@ public final class PromisesTest {
         y.lay(0, 0, 99, 0);
         y.light(12);
         is(26, y.catches(6, 5), 2);
+        // LIT now, and ASH in the next MINUTE; LIT in the next MINUTE, and not now.
+        SmokyHeap z = new SmokyHeap();
+        z.lay(3, 0, 1, 0);
+        z.light(0);
+        is(26, z.catches(0, 1), 0);
+        z.lay(2, 4, 99, 0);
+        z.lay(3, 5, 99, 0);
+        z.light(4);
+        is(26, z.catches(5, 1), 1);
+        is(26, z.catches(5, 0), NONE);
     }
 
     private static void reach() {
@@ -957,6 +1083,16 @@ public final class PromisesTest {
         is(27, x.reach(5), 8);
         for (int c = 0; c < 6; c++) pile(x, 0, c, 5);
         is(27, x.reach(29), 30);
+        SmokyHeap y = new SmokyHeap();
+        pile(y, 0, 5, 5);
+        pile(y, 0, 3, 1);
+        is(27, y.reach(29), 5);
+        is(27, y.reach(5), 5);
+        pile(y, 0, 4, 1);
+        is(27, y.reach(4), 7);
+        pile(y, 0, 0, 2);
+        is(27, y.reach(6), 2);
+        is(27, y.reach(0), 2);
         is(27, new SmokyHeap().reach(0), NONE);
         is(27, x.reach(30), BEYOND);
         is(27, x.reach(-1), BEYOND);
@@ -987,6 +1123,19 @@ public final class PromisesTest {
         is(28, x.report(4, 1), FULL);
         is(28, x.report(9, 1), BEYOND);
         is(28, x.count(2), 12);
+        // Of like ones the least: without 0 there is 1, without 1 there is 4, without 2 none.
+        SmokyHeap z = new SmokyHeap();
+        z.report(4, 0);
+        z.report(1, 0);
+        z.report(4, 1);
+        is(30, z.liar(), 0);
+        // Without the second 4 and 5 are left, without another one 4 alone.
+        SmokyHeap v = new SmokyHeap();
+        v.report(3, 2);
+        v.report(4, 1);
+        v.report(4, 2);
+        is(29, v.suspects(), 0b10000);
+        is(30, v.liar(), 1);
         int[][] from = {{0b1, 0b11, 0b111, 0b1000, 0b11000, 0b111000, 1 << 6, 3 << 6, 7 << 6},
             {1, 2, 4, 011, 022, 044, 0111, 0222, 0444}, {7, 6, 4, 070, 060, 040, 0700, 0600, 0400},
             {0111, 0222, 0444, 0110, 0220, 0440, 0100, 0200, 0400}};
@@ -1045,6 +1194,8 @@ public final class PromisesTest {
         is(32, x.body(0), 50);
         is(31, x.voice(4, 3, MIN), MIN);
         is(31, x.voice(4, 3, 7), -7);
+        is(32, x.count(6), 1);
+        is(32, x.body(0), 13);
     }
 
     private static void trace(int kind, int voice, int... bodies) {
@@ -1108,6 +1259,10 @@ public final class PromisesTest {
         is(33, x.armfuls(1), 1);
         x.sheet(1, 32, 4);
         is(33, x.armfuls(1), 0);
+        x.put(1, 0, 7);
+        x.sheet(1, 32, 4);
+        x.put(1, 2, 5);
+        is(33, x.armfuls(1), 1);
     }
 
     private static void put() {
@@ -1243,6 +1398,8 @@ public final class PromisesTest {
         x.voice(3, 1, 1);
         x.take(29);
         is(38, x.restore(), 2);
+        is(38, x.heap(3), 0);
+        is(38, x.suspects(), 0b110000);
         is(38, x.armful(0, 0), 1);
         is(38, x.armful(0, 5), 1);
         is(38, x.armful(3, 0), NONE);
@@ -1270,7 +1427,23 @@ public final class PromisesTest {
         is(37, x.image(), 2);
         x.minutes(5);
         is(38, x.restore(), 7);
+        // REPORTS, ASHES and what waits come back with their numbers.
+        x.lay(3, 5, 1, 0);
+        x.untell(1);
+        x.light(5);
+        x.minutes(1);
+        // The DRY one of before is ASH, too, by now.
+        is(38, x.heap(3), 2);
+        x.report(8, 1);
         is(37, x.image(), 3);
+        x.lay(3, 5, 1, 0);
+        x.light(5);
+        x.minutes(1);
+        is(38, x.heap(3), 3);
+        is(38, x.restore(), 8);
+        is(38, x.heap(3), 2);
+        is(38, x.suspects(), 0b100000);
+        is(37, x.image(), 4);
     }
 
     private static void tell() {
@@ -1289,6 +1462,10 @@ public final class PromisesTest {
         is(40, x.count(5), 0);
         is(40, x.check(2), 1);
         is(40, x.check(1), 0);
+        is(40, x.check(5), 0);
+        x.tell(3);
+        for (int k = 1; k < 5; k++) x.tell(k);
+        is(40, x.check(2), 1);
         for (int k = 0; k < 5; k++) x.tell(k == 3 ? 9 : k);
         is(40, x.check(2), 4);
         for (int k = 0; k < 4; k++) x.tell(k);
