@@ -107,7 +107,6 @@ public final class SmokyHeap {
     private final Heap ahead;
     private final Reader reader;
     private final Voices voices;
-    private final Row trace;
     private final Sheet[] sheets;
     private final int[] errors;
     private final int[] smokeAhead;
@@ -119,7 +118,6 @@ public final class SmokyHeap {
         ahead = new Heap();
         reader = new Reader();
         voices = new Voices();
-        trace = new Row(TRACE_MOST);
         sheets = new Sheet[SHEETS];
         for (int k = 0; k < SHEETS; k++) {
             sheets[k] = new Sheet();
@@ -478,15 +476,11 @@ public final class SmokyHeap {
         }
         voices.begin(now.heap.kinds[place], place, now.heap.stuffs[place]);
         int answer = voices.speak(now.heap.kinds[place], voice, x, 0);
-        if (voices.parted) {
-            return failed(PARTED);
-        }
-        trace.copyFrom(voices.begun);
-        return answer;
+        return voices.parted ? failed(PARTED) : answer;
     }
 
     public int body(int i) {
-        return trace.has(i) ? trace.items[i] : failed(NONE);
+        return voices.trace.has(i) ? voices.trace.items[i] : failed(NONE);
     }
 
     public int sheet(int sheet, int bits, int n) {
@@ -603,7 +597,7 @@ public final class SmokyHeap {
             case 5:
                 return now.waiting.size;
             case 6:
-                return trace.size;
+                return voices.trace.size;
             case 7:
                 return now.drawn;
             default:
@@ -1355,9 +1349,9 @@ public final class SmokyHeap {
         }
     }
 
-    /** One ARMFUL that speaks. */
+    /** One ARMFUL that speaks, and THE TRACE of what it spoke last, PARTED or not. */
     private static final class Voices {
-        final Row begun = new Row(TRACE_MOST);
+        final Row trace = new Row(TRACE_MOST);
         boolean parted = false;
         private int kind = 0;
         private int place = 0;
@@ -1368,19 +1362,19 @@ public final class SmokyHeap {
             place = itsPlace;
             stuff = itsStuff;
             parted = false;
-            begun.size = 0;
+            trace.size = 0;
         }
 
-        // The BODY of a KIND, or of the next one above that has one.
+        // The BODY of a KIND, or of the next one above that has one; behind one that PARTED none begins.
         int speak(int from, int voice, int x, int depth) {
             int owner = ownerOf(from, voice);
-            if (depth > DEPTH_MOST || owner == NOWHERE) {
+            if (parted || depth > DEPTH_MOST || owner == NOWHERE) {
                 return 0;
             }
             int above = KIND_ABOVE[owner];
             int deeper = depth + 1;
             int number = BODIES[VOICES * owner + voice];
-            begun.add(number);
+            trace.add(number);
             switch (number) {
                 case 10:
                     return x + stuff;

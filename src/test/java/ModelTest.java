@@ -28,7 +28,7 @@ public final class ModelTest {
         int smokes(Talk t, int x) { t.begin(12); return burns(t, x) - t.place; }
         int minds(Talk t, int x) {
             t.begin(13);
-            if (stuff == t.place) { t.parted = true; return 0; }
+            if (stuff == t.place) throw new Parted();
             return x / (stuff - t.place);
         }
 
@@ -102,10 +102,14 @@ public final class ModelTest {
 
     static class Talk {
         int place;
-        boolean parted;
         List<Integer> bodies = new ArrayList<>();
 
         void begin(int body) { if (bodies.size() < 30) bodies.add(body); }
+    }
+
+    /** Ends all of a voice() at once. */
+    static class Parted extends RuntimeException {
+        private static final long serialVersionUID = 1;
     }
 
     /** All that an IMAGE keeps. */
@@ -482,10 +486,12 @@ public final class ModelTest {
         int voice(Armful b, int p, int v, int x) {
             Talk t = new Talk();
             t.place = p;
-            int r = v == 0 ? b.dries(t, x) : v == 1 ? b.burns(t, x) : v == 2 ? b.smokes(t, x) : b.minds(t, x);
-            if (t.parted) return err(6);
             trace = t.bodies;
-            return r;
+            try {
+                return v == 0 ? b.dries(t, x) : v == 1 ? b.burns(t, x) : v == 2 ? b.smokes(t, x) : b.minds(t, x);
+            } catch (Parted parted) {
+                return err(6);
+            }
         }
 
         int spot(int n) {

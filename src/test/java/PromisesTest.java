@@ -1189,13 +1189,44 @@ public final class PromisesTest {
         is(32, x.count(6), 5);
         is(31, x.voice(5, 3, 7), PARTED);
         is(31, x.told(6), 1);
-        // An ERROR changes nothing else: THE TRACE is that of the one ahead.
-        is(32, x.count(6), 5);
-        is(32, x.body(0), 50);
+        // THE TRACE is that of the one that PARTED, too; nothing begins behind 13.
+        is(32, x.count(6), 2);
+        is(32, x.body(0), 51);
+        is(32, x.body(1), 13);
+        is(32, x.body(2), NONE);
+        // An ERROR of which no BODY began leaves it.
+        is(31, x.voice(29, 3, 7), NONE);
+        is(31, x.voice(30, 3, 7), BEYOND);
+        is(31, x.voice(5, 4, 7), BEYOND);
+        is(32, x.count(6), 2);
+        is(32, x.body(0), 51);
         is(31, x.voice(4, 3, MIN), MIN);
         is(31, x.voice(4, 3, 7), -7);
         is(32, x.count(6), 1);
         is(32, x.body(0), 13);
+    }
+
+    private static void partedTrace(int kind, int... bodies) {
+        SmokyHeap x = new SmokyHeap();
+        x.lay(kind, 2, 2, 0);
+        is(31, x.voice(2, 3, 0), PARTED);
+        is(31, x.told(6), 1);
+        is(32, x.count(6), bodies.length);
+        for (int k = 0; k < bodies.length; k++) is(32, x.body(k), bodies[k]);
+        is(32, x.body(bodies.length), NONE);
+        // An IMAGE does not keep THE TRACE, that of one that PARTED neither.
+        x.image();
+        x.voice(2, 0, 0);
+        int many = x.count(6);
+        x.restore();
+        is(32, x.count(6), many);
+        // What PARTED is forgotten by the next voice().
+        is(31, x.voice(2, 3, 5), PARTED);
+        x.become(2, 0);
+        is(31, x.voice(2, 1, 5), 14);
+        is(32, x.count(6), 2);
+        is(32, x.body(0), 11);
+        is(32, x.body(1), 10);
     }
 
     private static void trace(int kind, int voice, int... bodies) {
@@ -1228,6 +1259,13 @@ public final class PromisesTest {
         trace(6, 0, 70);
         trace(6, 2, 71, 12, 60, 11, 70);
         trace(6, 3, 13);
+        partedTrace(0, 13);
+        partedTrace(1, 21, 13);
+        partedTrace(2, 13);
+        partedTrace(3, 21, 13);
+        partedTrace(4, 51, 13);
+        partedTrace(5, 13);
+        partedTrace(6, 13);
     }
 
     private static void sheet() {
