@@ -626,15 +626,15 @@ public final class SmokyHeap {
         return now.laws.work(BYLAW, heap.hourNow(), heap.settings[WIND], heap.howManyLit(), heap.howMany()) != 0;
     }
 
-    // How much BOTHERED there is from the smoke in smokeAhead, if it begins with that HOUR. AHEAD goes
+    // How much more BOTHERED there is from the smoke in smokeAhead, if it begins with that HOUR. AHEAD goes
     // no further than an HOUR is long, so that all its MINUTES are of that HOUR.
     private int botheredFrom(int hour, int n) {
         ahead.settings[CLOCK] = MINUTES_AN_HOUR * hour;
-        ahead.forgetBothered();
+        System.arraycopy(now.heap.bothereds, 0, ahead.bothereds, 0, GARDENS);
         for (int k = 0; k < n; k++) {
             ahead.drift(smokeAhead[k], now.laws);
         }
-        return ahead.botheredInAll();
+        return ahead.botheredInAll() - now.heap.botheredInAll();
     }
 
     private static boolean within(int v, int least, int most) {
@@ -1032,12 +1032,7 @@ public final class SmokyHeap {
             return Math.max(0, Math.min(laws.work(LYING, hour, settings[WIND], made, 0), 100));
         }
 
-        void forgetBothered() {
-            for (int garden = 0; garden < GARDENS; garden++) {
-                bothereds[garden] = 0;
-            }
-        }
-
+        // Nine of the greatest would wrap, but what one sum is more than another does not.
         int botheredInAll() {
             int sum = 0;
             for (int garden = 0; garden < GARDENS; garden++) {

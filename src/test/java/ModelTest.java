@@ -10,6 +10,8 @@ import java.util.Random;
  */
 public final class ModelTest {
     static final int LOW = -1000000;
+    static final int CALLS_MOST = 512;
+    static final int CALLS_OF_DUMP = 200;
     static int wrong = 0;
 
     // ---- the model
@@ -704,7 +706,9 @@ public final class ModelTest {
 
         Run(int number) { this.number = number; r = new Random(number * 7919L + 17); }
 
+        // What an object answers to its 513th call and later ones is free.
         void call(String name, long... a) {
+            if (calls == CALLS_MOST) return;
             StringBuilder s = new StringBuilder(name).append(java.util.Arrays.toString(a));
             int want = m.call(name, a);
             int got = answer(x, name, a);
@@ -881,10 +885,10 @@ public final class ModelTest {
         }
 
         void dump() {
-            for (int p = 0; p < 30; p++) for (int k = 0; k < 9; k++) call("armful", p, k);
-            for (int g = 0; g < 9; g++) for (int k = 0; k < 3; k++) call("garden", g, k);
-            for (int k = 0; k < 8; k++) { call("heap", k); call("count", k); }
             for (int k = 1; k < 7; k++) call("told", k);
+            for (int k = 0; k < 8; k++) { call("heap", k); call("count", k); }
+            for (int g = 0; g < 9; g++) for (int k = 0; k < 3; k++) call("garden", g, k);
+            for (int p = 0; p < 30; p++) for (int k = 0; k < 9; k++) if (k == 0 || m.w.at(p) != null) call("armful", p, k);
             for (int k = 0; k < 5; k++) call("set", k, 0);
         }
     }
@@ -894,7 +898,7 @@ public final class ModelTest {
         long calls = 0;
         for (int k = 0; k < runs; k++) {
             Run run = new Run(k);
-            for (int s = 0; s < 80; s++) run.step();
+            for (int s = 0; s < 80 && run.calls < CALLS_MOST - CALLS_OF_DUMP; s++) run.step();
             run.dump();
             calls += run.calls;
         }
