@@ -90,6 +90,8 @@ public final class EdgesOfCallsTest extends Ask {
         seen.add(x.check(0));
         seen.add(x.text(2));
         for (int use = 0; use < 3; use++) seen.add(x.untell(use));
+        seen.add(x.report(4, 0));
+        seen.add(x.suspects());
     }
 
     private static void lookAtSheets(SmokyHeap x, List<Integer> seen) {
@@ -598,6 +600,12 @@ public final class EdgesOfCallsTest extends Ask {
         y.report(2, 0);
         is("29 suspects: none is left", y.suspects(), 0);
         is("30 liar: the one that leaves most", y.liar(), 2);
+        // Without the second one 2 and 5 are left, without the first one 8, without the last one none.
+        SmokyHeap v = new SmokyHeap();
+        v.report(5, 1);
+        v.report(7, 2);
+        v.report(8, 1);
+        is("30 liar: not the last that differs", v.liar(), 1);
         // Three that each tell of another GARDEN: whichever is left out, none is left.
         SmokyHeap z = new SmokyHeap();
         z.report(0, 0);
@@ -793,6 +801,52 @@ public final class EdgesOfCallsTest extends Ask {
         is("38 restore: the one of begun(), in place of one ahead", y.count(0), 10);
         is("38 restore: what the SETTINGS were", y.set(3, 0), 60);
         notOfTheImage();
+        allOfTheImage();
+    }
+
+    private static void allOfTheImage() {
+        Consumer<SmokyHeap> kept = x -> {
+            begun(x);
+            x.image();
+        };
+        refused("38 restore: all is as the IMAGE has it", kept, 3, x -> {
+            x.minutes(1);
+            x.take(0);
+            x.lay(5, 3, 7, 7);
+            x.fork(1, 8);
+            x.pour(2, 9);
+            x.become(4, 0);
+            x.light(4);
+            x.gusts(2);
+            x.washing(4, 3, 5);
+            x.washing(5, 3, 5);
+            for (int k = 0; k < 5; k++) x.set(k, 1);
+            feed(x, "9");
+            x.text(2);
+            law(x, 0, "1");
+            law(x, 1, "0");
+            x.untell(2);
+            feed(x, "555");
+            x.report(7, 2);
+            x.report(1, 1);
+            x.seed(5);
+            x.check(0);
+            x.tell(3);
+            x.tell(4);
+            x.tell(5);
+            return x.restore();
+        });
+        refused("38 restore: the IMAGE of an empty HEAP", SmokyHeap::image, 0, x -> {
+            x.lay(0, 0, 5, 0);
+            x.light(0);
+            x.minutes(9);
+            x.report(4, 1);
+            law(x, 1, "0");
+            feed(x, "1");
+            x.tell(1);
+            x.seed(8);
+            return x.restore();
+        });
     }
 
     private static void notOfTheImage() {

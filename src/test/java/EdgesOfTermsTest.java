@@ -50,6 +50,23 @@ public final class EdgesOfTermsTest extends Ask {
         }
     }
 
+    private static void leastStuff() {
+        SmokyHeap x = new SmokyHeap();
+        for (int k = 0; k < 5; k++) x.lay(k, 1, 1, 50 - k);
+        is("1 STUFF of 1: it is there", x.count(0) + x.heap(0), 10);
+        is("1 STUFF of 1: it comes down", x.take(1) + x.armful(1, 0), 2);
+        is("1 STUFF of 1: all above do", x.armful(19, 0), 4);
+        is("1 STUFF of 1: it is LIT", x.light(19), 1);
+        is("1 STUFF of 1: it counts among the LIT", x.heap(1), 1);
+        is("1 STUFF of 1: it hangs together with others", x.reach(1), 4);
+        is("1 STUFF of 1: it has DRAUGHT", x.armful(19, 6), 3 * 3 + 5);
+        is("1 STUFF of 1: those below have less", x.armful(13, 6), 2 * 3 + 5);
+        is("1 STUFF of 1: WARM and WET count", x.heap(2) * 1000 + x.heap(7), 100000 + 49 + 48 + 47 + 46);
+        SmokyHeap y = lit(6, 1, 0);
+        is("4 OUT: of STUFF 1, too", y.out(1), 100);
+        is("1 STUFF of 1: is taken", y.take(0), 1);
+    }
+
     private static void draughts() {
         for (int column = 0; column < 6; column++) {
             for (int way = 0; way < 4; way++) {
@@ -199,6 +216,11 @@ public final class EdgesOfTermsTest extends Ask {
         fault("d1", 1);
         fault("1d", 1);
         fault("D", 0);
+        // The bytes beside those of the digits.
+        fault("/", 0);
+        fault(":", 0);
+        fault("1:", 1);
+        fault("1/:", 2);
     }
 
     /** A value, by a BYLAW that compares it with that of another text. */
@@ -261,6 +283,10 @@ public final class EdgesOfTermsTest extends Ask {
         worth("!(0-1)", "0");
         worth("!2", "0");
         worth("!!2", "1");
+        worth("2<1", "0");
+        worth("1>2", "0");
+        worth("1=2", "0");
+        worth("2=1", "0");
         worth("1<1", "0");
         worth("1>1", "0");
         worth("1=1", "1");
@@ -400,6 +426,17 @@ public final class EdgesOfTermsTest extends Ask {
             x.become(d[2], 6);
             x.minutes(1);
             is("3 the ends of rows and columns are not beside one another: " + d[2], x.heap(2), d[3]);
+        }
+        int[][] pairs = {{0, 1}, {1, 0}, {4, 5}, {5, 4}, {18, 24}, {24, 18}, {23, 29}, {29, 23}};
+        for (int[] p : pairs) {
+            SmokyHeap x = new SmokyHeap();
+            pile(x, 6, p[0] % 6, 5);
+            if (p[0] % 6 != p[1] % 6) pile(x, 6, p[1] % 6, 5);
+            x.become(p[0], 0);
+            x.light(p[0]);
+            x.become(p[0], 6);
+            x.minutes(1);
+            is("3 but these are: " + p[0] + " and " + p[1], x.armful(p[1], 4) > 4 ? 1 : 0, 1);
         }
     }
 
@@ -669,6 +706,12 @@ public final class EdgesOfTermsTest extends Ask {
 
     // A PAPER catches from 12 of WARM, and smokes in the second MINUTE; so WASHING drives it into the last HOUR.
     private static void litAsByHand() {
+        for (int home = 0; home < 9; home += 4) {
+            SmokyHeap x = smoky();
+            x.set(4, home);
+            x.washing(home, 0, 22);
+            is("4 HOUR: in all GARDENS together, from HOME " + home, x.hour(0, 60), 23);
+        }
         SmokyHeap[] all = {new SmokyHeap(), glowing(7), new SmokyHeap()};
         all[0].lay(6, 0, 9, 0);
         all[2].lay(0, 0, 9, 999);
@@ -946,6 +989,7 @@ public final class EdgesOfTermsTest extends Ask {
 
     public static void main(String[] args) {
         comingDown();
+        leastStuff();
         draughts();
         hoursOfClock();
         digits();
