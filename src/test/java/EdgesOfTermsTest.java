@@ -180,6 +180,12 @@ public final class EdgesOfTermsTest extends Ask {
         fault(long58 + "1x", 59);
         fault(long58 + "x1", 58);
         fault("x" + long58 + "1", 0);
+        // 60 bytes, each of which is a number or a sign by itself, are all worked out: 1 and 29 times 1.
+        SmokyHeap x = lit(0, 40, 0);
+        is("2 a TEXT of 60 parts", law(x, 0, "!0" + "+1".repeat(29)), 1);
+        is("2 all is worked out", x.then(1, 4), 30);
+        is("2 another in its place", law(x, 0, "!0*7" + "*1".repeat(28)), 1);
+        is("2 nothing of the one ahead", x.then(1, 4), 7);
     }
 
     private static void noBlanks() {
