@@ -474,8 +474,7 @@ public final class SmokyHeap {
         if (!now.heap.has(place)) {
             return failed(NONE);
         }
-        voices.begin(now.heap.kinds[place], place, now.heap.stuffs[place]);
-        int answer = voices.speak(now.heap.kinds[place], voice, x, 0);
+        int answer = voices.answerOf(now.heap.kinds[place], place, now.heap.stuffs[place], voice, x);
         return voices.parted ? failed(PARTED) : answer;
     }
 
@@ -1352,16 +1351,18 @@ public final class SmokyHeap {
         private int place = 0;
         private int stuff = 0;
 
-        void begin(int itsKind, int itsPlace, int itsStuff) {
+        // What it answers is free if it is parted then.
+        int answerOf(int itsKind, int itsPlace, int itsStuff, int voice, int x) {
             kind = itsKind;
             place = itsPlace;
             stuff = itsStuff;
             parted = false;
             trace.size = 0;
+            return speak(kind, voice, x, 0);
         }
 
         // The BODY of a KIND, or of the next one above that has one; behind one that PARTED none begins.
-        int speak(int from, int voice, int x, int depth) {
+        private int speak(int from, int voice, int x, int depth) {
             int owner = ownerOf(from, voice);
             if (parted || depth > DEPTH_MOST || owner == NOWHERE) {
                 return 0;

@@ -402,6 +402,7 @@ public final class EdgesOfCallsTest extends Ask {
             is("13 untell: there was one", x.untell(u), 1);
             is("13 untell: there is none any more", x.untell(u), 0);
             is("13 untell: the others stay", x.untell((u + 1) % 3) + x.untell((u + 2) % 3), 2);
+            is("13 untell: THE TAPE stays", x.count(4), 2);
         }
     }
 
@@ -890,6 +891,60 @@ public final class EdgesOfCallsTest extends Ask {
         refused("42 told changes nothing", 0, x -> x.told(1));
     }
 
+    /** Acts each of which changes what none of the others does. */
+    private static List<Consumer<SmokyHeap>> actsApart() {
+        List<Consumer<SmokyHeap>> acts = new ArrayList<>(List.of(
+                x -> x.lay(0, 3, 9, 9), x -> x.take(17), x -> x.become(6, 2), x -> x.fork(0, 9), x -> x.pour(1, 33),
+                x -> x.light(4), x -> x.feed('9', 1), x -> x.untell(0), x -> x.untell(2), x -> x.seed(5),
+                x -> x.washing(4, 3, 5), x -> x.report(7, 2), x -> x.tell(9), x -> x.sheet(3, 8, 4),
+                x -> x.put(1, 0, 2), x -> x.move(0, 4, 0, 0, 4), x -> x.voice(4, 1, 3), x -> x.take(30)));
+        int[] becomes = {2, 2, 2, 70, 2};
+        for (int k = 0; k < 5; k++) {
+            int what = k;
+            acts.add(x -> x.set(what, becomes[what]));
+        }
+        return acts;
+    }
+
+    private static void same(String sentence, Consumer<SmokyHeap> begin, Consumer<SmokyHeap> beginOther) {
+        refused(sentence, begin, beginOther, 0, x -> 0);
+    }
+
+    private static void apart() {
+        List<Consumer<SmokyHeap>> acts = actsApart();
+        for (int i = 0; i < acts.size(); i++) {
+            for (int j = 0; j < i; j++) {
+                Consumer<SmokyHeap> one = acts.get(i);
+                Consumer<SmokyHeap> other = acts.get(j);
+                Consumer<SmokyHeap> begun = EdgesOfCallsTest::begun;
+                same("an act changes what it tells alone: " + j + " and " + i, begun.andThen(one).andThen(other),
+                        begun.andThen(other).andThen(one));
+            }
+        }
+    }
+
+    /** What an act changes is put back by another one: then all is as it was. */
+    private static void putBack() {
+        refused("2, 3 lay, take", 5, x -> x.take(x.lay(4, 1, 5, 6)));
+        refused("6 become (all else stays)", 6, x -> x.become(0, 6) + x.become(0, 0));
+        refused("8 fork", 7 + 1, x -> x.fork(6, 1) + x.fork(6, 7));
+        int[] was = {903, 12, 0, 80, 3};
+        for (int k = 0; k < 5; k++) {
+            int what = k;
+            refused("10 set " + k, was[k] + 2, x -> x.set(what, 2) + x.set(what, was[what]));
+        }
+        refused("16 seed", 77 + 5, x -> x.seed(5) + x.seed(77));
+        refused("17 washing", 2 + 1, x -> x.washing(5, 3, 4) + x.washing(5, 15, 15));
+        refused("33 sheet", 2, x -> x.sheet(3, 32, 9) + x.sheet(3, 0, 9));
+        refused("34 put", 2, x -> x.put(0, 2, 9) + x.put(0, 2, 500));
+        refused("35 move", 8, x -> x.move(0, 0, 0, 0, 8));
+        refused("31 voice", 52 + 93, x -> x.voice(0, 0, 2) + x.voice(0, 2, 7) - 21);
+        refused("12, 13 text, untell", x -> {
+            begun(x);
+            x.text(0);
+        }, 2, x -> x.untell(2) + law(x, 2, "s*3"));
+    }
+
     private static void tell() {
         Consumer<SmokyHeap> with24 = x -> {
             begun(x);
@@ -1004,6 +1059,8 @@ public final class EdgesOfCallsTest extends Ask {
         count();
         told();
         telling();
+        apart();
+        putBack();
         end();
     }
 }

@@ -576,6 +576,25 @@ public final class EdgesOfTermsTest extends Ask {
         if (row < 4) is("3 the one that came above it", x.armful(6 * row + 6, 1), row < 3 ? 45 : NONE);
     }
 
+    // BURNING is DRAUGHT; what is ASH leaves AIR beside those that are done later, if none comes down there.
+    private static void byNumbers() {
+        SmokyHeap x = new SmokyHeap();
+        x.light(x.lay(0, 0, 5, 0));
+        x.light(x.lay(0, 1, 99, 0));
+        law(x, 0, "d");
+        is("3 DRAUGHT is what it is then: AIR to the left", x.then(1, 4), 5 + 3 * 3 + 5);
+        x.lay(6, 0, 9, 0);
+        is("3 DRAUGHT is what it is then: one came down", x.then(1, 4), 5 + 2 * 3);
+        // What is in 1 is ASH, ahead of 6; so there is AIR in 7.
+        SmokyHeap y = new SmokyHeap();
+        y.lay(6, 0, 9, 0);
+        y.light(y.lay(0, 0, 99, 0));
+        y.light(y.lay(0, 1, 3, 0));
+        y.lay(6, 1, 9, 0);
+        law(y, 0, "d");
+        is("3 PLACES by numbers: a row, then the one above", y.then(1, 4), 3 + 3 * 3 + 5);
+    }
+
     private static void smokeCut() {
         int[][] due = {{0, 0}, {9, 0}, {10, 1}, {29, 1}, {30, 2}, {989, 49}, {990, 50}};
         for (int[] d : due) {
@@ -706,7 +725,10 @@ public final class EdgesOfTermsTest extends Ask {
             y.washing(4, 0, 23);
             y.washing(3, 0, 23);
             law(y, 2, "!(h=" + hour + ")*100");
-            is("4 HOUR: 60 MINUTES of that HOUR", y.hour(0, 60), hour);
+            for (int clock : new int[] {900, 901, 945, 959}) {
+                y.set(0, clock);
+                is("4 HOUR: 60 MINUTES of that HOUR, CLOCK 60 times it, now " + clock, y.hour(0, 60), hour);
+            }
         }
     }
 
@@ -734,6 +756,10 @@ public final class EdgesOfTermsTest extends Ask {
         SmokyHeap x = all[0];
         x.take(1);
         is("4 HOUR: nothing smokes", x.hour(0, 60), 0);
+        SmokyHeap y = smoky();
+        y.lay(6, 5, 9, 0);
+        y.washing(4, 0, 22);
+        is("4 HOUR: of one that doesn't smoke, while another one does", y.hour(5, 1), 23);
         spotAsByHand();
     }
 
@@ -753,6 +779,12 @@ public final class EdgesOfTermsTest extends Ask {
         law(y, 0, "r");
         is("4 SPOT: one that is LIT has WARM 100 then", y.spot(1), 0);
         is("4 SPOT: it is as it was", y.then(1, 4), 7);
+        // 10 of the DRY one burn, which is LIT already; if that in PLACE 5 is LIT, 5 more.
+        SmokyHeap v = new SmokyHeap();
+        v.light(v.lay(1, 0, 99, 0));
+        v.lay(0, 5, 99, 0);
+        law(v, 0, "5");
+        is("4 SPOT: those that are LIT burn, too", v.spot(1), 5);
         // A LIVED one warms two PAPERS, which burn from the second MINUTE and from the third on.
         SmokyHeap z = new SmokyHeap();
         for (int column = 0; column < 3; column++) z.lay(column == 1 ? 6 : 3, column, 999, 0);
@@ -1016,6 +1048,7 @@ public final class EdgesOfTermsTest extends Ask {
         catching();
         warmthHeld();
         ash();
+        byNumbers();
         smokeCut();
         smokeGoes();
         washingHours();
