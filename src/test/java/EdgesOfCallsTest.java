@@ -9,132 +9,9 @@ import java.util.function.ToIntFunction;
  * not; each ERROR, and which of two is asked first; and that a call that answers one changes nothing but what told()
  * tells, or where told: all that can be looked at is looked at on another object, too, on which it was not called.
  */
-public final class EdgesOfCallsTest extends Ask {
-    /** A HEAP in which something is of everything; of its acts the last one answers NONE, no other one an ERROR. */
-    private static void begun(SmokyHeap x) {
-        // A paper of which 70 of smoke comes, 28 of it lies: 14 in GARDEN 4, 7 in GARDEN 5.
-        x.washing(5, 15, 15);
-        x.lay(3, 3, 20, 60);
-        x.light(3);
-        x.minutes(3);
-        x.lay(0, 0, 50, 40);
-        x.lay(1, 0, 40, 10);
-        x.lay(2, 1, 90, 200);
-        x.lay(6, 2, 30, 20);
-        x.lay(4, 4, 4, 5);
-        for (int k = 0; k < 5; k++) x.lay(5, 5, 20 + k, 3);
-        x.fork(6, 7);
-        x.light(0);
-        x.pour(1, 9);
-        law(x, 0, "d/2+1");
-        law(x, 1, "l<9");
-        law(x, 2, "s*3");
-        x.report(5, 0);
-        x.report(4, 1);
-        x.seed(77);
-        x.set(1, 12);
-        x.set(4, 3);
-        x.image();
-        x.set(3, 80);
-        sheet(x, 0, 16, 3, 1, 500, 30, 0, 1, 7, 8);
-        sheet(x, 1, 8, 1, 2, 5, 6);
-        sheet(x, 2, 32, 65536, 2);
-        x.voice(0, 2, 7);
-        x.tell(0);
-        x.tell(1);
-        feed(x, "7+");
-        x.take(28);
-    }
-
-    private static void sheet(SmokyHeap x, int sheet, int bits, int... numbers) {
-        x.sheet(sheet, bits, numbers.length);
-        for (int i = 0; i < numbers.length; i++) x.put(sheet, i, numbers[i]);
-    }
-
-    // ---- what can be looked at
-
-    private static List<Integer> looks(SmokyHeap x) {
-        List<Integer> seen = new ArrayList<>();
-        for (int k = 0; k < 4; k++) seen.add(x.body(k));
-        lookAtHeap(x, seen);
-        for (int g = 0; g < 9; g++) for (int k = 0; k < 3; k++) seen.add(x.garden(g, k));
-        seen.add(x.then(3, 4));
-        seen.add(x.gardenThen(3, 4, 0));
-        lookAtTexts(x, seen);
-        lookAtSheets(x, seen);
-        lookAtHeap(x, seen);
-        seen.add(x.restore());
-        lookAtHeap(x, seen);
-        lookAtTexts(x, seen);
-        seen.add(x.image());
-        return seen;
-    }
-
-    private static void lookAtHeap(SmokyHeap x, List<Integer> seen) {
-        for (int k = 0; k < 8; k++) {
-            seen.add(x.heap(k));
-            seen.add(x.count(k));
-        }
-        for (int p = 0; p < 30; p++) {
-            int kind = x.armful(p, 0);
-            seen.add(kind);
-            for (int k = 1; k < 6 && kind >= 0; k++) seen.add(x.armful(p, k));
-        }
-    }
-
-    private static void lookAtTexts(SmokyHeap x, List<Integer> seen) {
-        seen.add(x.may());
-        seen.add(x.suspects());
-        seen.add(x.liar());
-        for (int k = 0; k < 5; k++) seen.add(x.set(k, 0));
-        seen.add(x.check(0));
-        seen.add(x.text(2));
-        for (int use = 0; use < 3; use++) seen.add(x.untell(use));
-        seen.add(x.report(4, 0));
-        seen.add(x.suspects());
-    }
-
-    private static void lookAtSheets(SmokyHeap x, List<Integer> seen) {
-        for (int s = 0; s < 4; s++) {
-            seen.add(x.armfuls(s));
-            for (int i = 1; i < 9; i *= 2) {
-                seen.add(x.put(s, i, 1));
-                seen.add(x.put(s, i - 1, 1));
-            }
-            seen.add(x.move(s, 0, 0, 0, 0));
-            seen.add(x.move(s, 0, 1, 0, 0));
-        }
-    }
-
-    // ---- what is asked
-
-    private static void refused(String sentence, int error, ToIntFunction<SmokyHeap> call) {
-        refused(sentence, EdgesOfCallsTest::begun, error, call);
-    }
-
-    private static void refused(String sentence, Consumer<SmokyHeap> begin, int error, ToIntFunction<SmokyHeap> call) {
-        refused(sentence, begin, begin, error, call);
-    }
-
-    private static void refused(String sentence, Consumer<SmokyHeap> begin, Consumer<SmokyHeap> beginOther, int error,
-            ToIntFunction<SmokyHeap> call) {
-        SmokyHeap x = new SmokyHeap();
-        SmokyHeap other = new SmokyHeap();
-        begin.accept(x);
-        beginOther.accept(other);
-        is(sentence, call.applyAsInt(x), error);
-        for (int k = 1; k < 7; k++) {
-            is(sentence + ", told(" + k + ")", x.told(k), other.told(k) + (error == LOW - k ? 1 : 0));
-        }
-        List<Integer> got = looks(x);
-        List<Integer> want = looks(other);
-        int same = 0;
-        while (same < want.size() && got.size() == want.size() && got.get(same).equals(want.get(same))) same++;
-        is(sentence + ", looks that are as without the call", same, want.size());
-    }
-
+public final class EdgesOfCallsTest extends Begun {
     private static void taken(String sentence, int want, ToIntFunction<SmokyHeap> call) {
-        taken(sentence, EdgesOfCallsTest::begun, want, call);
+        taken(sentence, Begun::begun, want, call);
     }
 
     private static void taken(String sentence, Consumer<SmokyHeap> begin, int want, ToIntFunction<SmokyHeap> call) {
@@ -146,7 +23,7 @@ public final class EdgesOfCallsTest extends Ask {
 
     private static void edge(String sentence, int least, int wantLeast, int most, int wantMost,
             ToIntBiFunction<SmokyHeap, Integer> call) {
-        edge(sentence, EdgesOfCallsTest::begun, least, wantLeast, most, wantMost, call);
+        edge(sentence, Begun::begun, least, wantLeast, most, wantMost, call);
     }
 
     /** A number that a call takes: what lies outside of least and most is BEYOND, these two are not. */
@@ -891,60 +768,6 @@ public final class EdgesOfCallsTest extends Ask {
         refused("42 told changes nothing", 0, x -> x.told(1));
     }
 
-    /** Acts each of which changes what none of the others does. */
-    private static List<Consumer<SmokyHeap>> actsApart() {
-        List<Consumer<SmokyHeap>> acts = new ArrayList<>(List.of(
-                x -> x.lay(0, 3, 9, 9), x -> x.take(17), x -> x.become(6, 2), x -> x.fork(0, 9), x -> x.pour(1, 33),
-                x -> x.light(4), x -> x.feed('9', 1), x -> x.untell(0), x -> x.untell(2), x -> x.seed(5),
-                x -> x.washing(4, 3, 5), x -> x.report(7, 2), x -> x.tell(9), x -> x.sheet(3, 8, 4),
-                x -> x.put(1, 0, 2), x -> x.move(0, 4, 0, 0, 4), x -> x.voice(4, 1, 3), x -> x.take(30)));
-        int[] becomes = {2, 2, 2, 70, 2};
-        for (int k = 0; k < 5; k++) {
-            int what = k;
-            acts.add(x -> x.set(what, becomes[what]));
-        }
-        return acts;
-    }
-
-    private static void same(String sentence, Consumer<SmokyHeap> begin, Consumer<SmokyHeap> beginOther) {
-        refused(sentence, begin, beginOther, 0, x -> 0);
-    }
-
-    private static void apart() {
-        List<Consumer<SmokyHeap>> acts = actsApart();
-        for (int i = 0; i < acts.size(); i++) {
-            for (int j = 0; j < i; j++) {
-                Consumer<SmokyHeap> one = acts.get(i);
-                Consumer<SmokyHeap> other = acts.get(j);
-                Consumer<SmokyHeap> begun = EdgesOfCallsTest::begun;
-                same("an act changes what it tells alone: " + j + " and " + i, begun.andThen(one).andThen(other),
-                        begun.andThen(other).andThen(one));
-            }
-        }
-    }
-
-    /** What an act changes is put back by another one: then all is as it was. */
-    private static void putBack() {
-        refused("2, 3 lay, take", 5, x -> x.take(x.lay(4, 1, 5, 6)));
-        refused("6 become (all else stays)", 6, x -> x.become(0, 6) + x.become(0, 0));
-        refused("8 fork", 7 + 1, x -> x.fork(6, 1) + x.fork(6, 7));
-        int[] was = {903, 12, 0, 80, 3};
-        for (int k = 0; k < 5; k++) {
-            int what = k;
-            refused("10 set " + k, was[k] + 2, x -> x.set(what, 2) + x.set(what, was[what]));
-        }
-        refused("16 seed", 77 + 5, x -> x.seed(5) + x.seed(77));
-        refused("17 washing", 2 + 1, x -> x.washing(5, 3, 4) + x.washing(5, 15, 15));
-        refused("33 sheet", 2, x -> x.sheet(3, 32, 9) + x.sheet(3, 0, 9));
-        refused("34 put", 2, x -> x.put(0, 2, 9) + x.put(0, 2, 500));
-        refused("35 move", 8, x -> x.move(0, 0, 0, 0, 8));
-        refused("31 voice", 52 + 93, x -> x.voice(0, 0, 2) + x.voice(0, 2, 7) - 21);
-        refused("12, 13 text, untell", x -> {
-            begun(x);
-            x.text(0);
-        }, 2, x -> x.untell(2) + law(x, 2, "s*3"));
-    }
-
     private static void tell() {
         Consumer<SmokyHeap> with24 = x -> {
             begun(x);
@@ -964,7 +787,7 @@ public final class EdgesOfCallsTest extends Ask {
             x.check(0);
         };
         for (int column : new int[] {-1, 6, MIN, MAX}) {
-            refused("40 check BEYOND (none wait then, too)", EdgesOfCallsTest::begun, noneWait, BEYOND, x -> x.check(column));
+            refused("40 check BEYOND (none wait then, too)", Begun::begun, noneWait, BEYOND, x -> x.check(column));
         }
         // 0 and 1 wait, and column 0 is of these; column 5 is of five GREEN ones.
         taken("40 check: the first column", 0, x -> x.check(0));
@@ -1059,8 +882,6 @@ public final class EdgesOfCallsTest extends Ask {
         count();
         told();
         telling();
-        apart();
-        putBack();
         end();
     }
 }
